@@ -25,7 +25,10 @@ public final class LetterQuay {
     private static final int LAST_DAY = 999;
     private static final int ALPHABETS = 120;
     private static final int DEEDS_KEPT = 16;
-    private static final int WHOLE_CHANCE_STEPS = 99;
+    private static final int MOST_STEPS = 99;
+    private static final int MOST_SLIPS = 20;
+    private static final int MOST_WEEKS = 60;
+    private static final int HIGHEST_SEED = 1_000_000;
     private static final long WHOLE_CHANCE = 1_000_000_000_000L;
 
     private static final int DAY = 0;
@@ -42,7 +45,7 @@ public final class LetterQuay {
     private static final int BARS = 6;
 
     /** Outside of what a SUM may be, so that a value and its being BROKEN go in one int. */
-    private static final int BROKEN = Integer.MIN_VALUE;
+    private static final int BROKEN = -2_000_000_000;
 
     private static final int DAY_WORD = 0;
     private static final int DONE_WORD = 1;
@@ -55,7 +58,7 @@ public final class LetterQuay {
     private static final int LAW_WORDS = 8;
 
     private static final int[] TENS = {1000, 100, 10, 1};
-    private static final int[] HIGHEST_TERMS = {LAST_DAY, 10, 9};
+    private static final int[] HIGHEST_TERMS = {999, 10, 9};
 
     private final Quay quay = new Quay();
     /** Null where none was kept. */
@@ -417,7 +420,7 @@ public final class LetterQuay {
     }
 
     public long comes(int k, int n) {
-        if (k < 1 || k > 20 || n < 0 || n > WHOLE_CHANCE_STEPS) {
+        if (k < 1 || k > MOST_SLIPS || n < 0 || n > MOST_STEPS) {
             return NONE;
         }
         int slip = quay.terms[SLIP];
@@ -439,20 +442,20 @@ public final class LetterQuay {
     // ---- weeks by draws ----
 
     public int weeks(int seed, int n) {
-        if (seed < 0 || seed > 1_000_000 || n < 1 || n > 60) {
+        if (seed < 0 || seed > HIGHEST_SEED || n < 1 || n > MOST_WEEKS) {
             return refuse(WRONG_NUMBER);
         }
         if (quay.people == 0) {
             return refuse(CANNOT_BE);
         }
         paper.copyFrom(quay);
-        int drawn = seed;
+        int s = seed;
         int right = 0;
         for (int time = 0; time < n && paper.terms[DAY] < LAST_DAY; time++) {
-            int who = draw(drawn);
-            int what = draw(who);
-            drawn = draw(what);
-            drawnDeed(who % quay.people, what % 4, drawn % LETTERS + 1);
+            int first = draw(s);
+            int second = draw(first);
+            s = draw(second);
+            drawnDeed(first % quay.people, second % 4, s % LETTERS + 1);
             paper.terms[DAY]++;
             if (paper.breakAt(NONE) == 0) {
                 right++;
@@ -621,7 +624,7 @@ public final class LetterQuay {
         }
         for (int time = 0; time < clause.times; time++) {
             fillOrderWords();
-            if (court.isSo(text, clause, orderWords)) {
+            if (court.reckoner.reckon(text, clause.test, orderWords, 1) == 1) {
                 if (runDeed(text, clause) < 0) {
                     return false;
                 }
@@ -632,9 +635,10 @@ public final class LetterQuay {
     }
 
     private int runDeed(Text text, Clause clause) {
-        int first = court.sumOf(text, clause.first, orderWords);
-        int second = court.sumOf(text, clause.second, orderWords);
-        int third = court.sumOf(text, clause.third, orderWords);
+        Reckoner reckoner = court.reckoner;
+        int first = reckoner.reckon(text, clause.first, orderWords, 0);
+        int second = reckoner.reckon(text, clause.second, orderWords, 0);
+        int third = reckoner.reckon(text, clause.third, orderWords, 0);
         if (first == BROKEN || second == BROKEN || third == BROKEN) {
             return CANNOT_BE;
         }
@@ -701,6 +705,7 @@ public final class LetterQuay {
         }
     }
 
+    /** The s that follows, which a DRAW takes modulo what it is of. */
     private static int draw(int s) {
         return (int) ((s * 1103L + 12345L) % 1_000_003L);
     }
@@ -1103,19 +1108,21 @@ public final class LetterQuay {
         static final int MORE = 12;
         static final int EQUAL = 13;
 
-        private static final int ARGUMENT_BITS = 10;
+        /** An operation stands above its argument: a NUMBER, which word, where a jump comes to. */
+        static final int ARGUMENT_BITS = 10;
         private static final long FARTHEST = 1_000_000_000L;
 
         private final int[] values = new int[4 * MOST_BRACKETS];
 
-        static int coded(int operation, int argument) {
-            return operation << ARGUMENT_BITS | argument;
-        }
-
-        /** Jumps go forward alone, so that no place of the code comes twice. */
-        int reckon(int[] code, int start, int[] words) {
+        /** BROKEN, or what the SUM, the TEST (1: it is so, 0) that starts there comes to; where there is none, as told. */
+        int reckon(Text text, int start, int[] words, int without) {
+            if (start == NONE || text.code == null) {
+                return without;
+            }
+            int[] code = text.code;
             int top = -1;
             int place = start;
+            // Jumps go forward alone, so that no place of the code comes twice.
             for (int n = 0; n < code.length && place >= 0 && place < code.length; n++) {
                 int operation = code[place] >> ARGUMENT_BITS;
                 int argument = code[place] & (1 << ARGUMENT_BITS) - 1;
@@ -1192,6 +1199,8 @@ public final class LetterQuay {
         private static final int AT = WORDS + 4;
         private static final int TODAY = WORDS + 7;
         private static final int DONE = WORDS + 9;
+        private static final int LATEST = WORDS + 10;
+        private static final int BREAKS = WORDS + 11;
         private static final int SWAPS = WORDS + 12;
         private static final int WHO = WORDS + 13;
         private static final int NAME = WORDS + 14;
@@ -1507,14 +1516,41 @@ public final class LetterQuay {
                 return;
             }
             parts++;
-            if (parts > MOST_PARTS) {
-                fail();
-            } else if (token >= NUMBERS) {
+            int word = ofOrders ? orderWord(token) : lawWord(token);
+            if (parts <= MOST_PARTS && token >= NUMBERS) {
                 emit(Reckoner.NUMBER, numberWithin(0, HIGHEST_NUMBER));
-            } else if (ofOrders) {
-                readOrderWord();
+            } else if (parts <= MOST_PARTS && word != NONE) {
+                next();
+                boolean counted = ofOrders && word >= WHO_WORDS;
+                emit(Reckoner.WORD, counted ? word + numberWithin(0, MOST_PEOPLE - 1) : word);
             } else {
-                readLawWord();
+                fail();
+            }
+        }
+
+        private static int lawWord(int token) {
+            return token >= PERSON && token < PERSON + LAW_WORDS ? token - PERSON : NONE;
+        }
+
+        /** For "who", "name" the first of seven. */
+        private static int orderWord(int token) {
+            switch (token) {
+                case TODAY:
+                    return DAY_WORD;
+                case DONE:
+                    return DONE_WORD;
+                case LATEST:
+                    return LATEST_WORD;
+                case BREAKS:
+                    return BREAKS_WORD;
+                case SWAPS:
+                    return SWAPS_WORD;
+                case WHO:
+                    return WHO_WORDS;
+                case NAME:
+                    return NAME_WORDS;
+                default:
+                    return NONE;
             }
         }
 
@@ -1527,33 +1563,11 @@ public final class LetterQuay {
             return true;
         }
 
-        private void readLawWord() {
-            if (token < PERSON || token >= PERSON + LAW_WORDS) {
-                fail();
-                return;
-            }
-            emit(Reckoner.WORD, token - PERSON);
-            next();
-        }
-
-        private void readOrderWord() {
-            if (token == WHO || token == NAME) {
-                int first = token == WHO ? WHO_WORDS : NAME_WORDS;
-                next();
-                emit(Reckoner.WORD, first + numberWithin(0, MOST_PEOPLE - 1));
-            } else if (token == TODAY || token >= DONE && token <= SWAPS) {
-                emit(Reckoner.WORD, token == TODAY ? DAY_WORD : DONE_WORD + token - DONE);
-                next();
-            } else {
-                fail();
-            }
-        }
-
         // ---- code ----
 
         private void emit(int operation, int argument) {
             if (codeSize < code.length) {
-                code[codeSize] = Reckoner.coded(operation, argument);
+                code[codeSize] = operation << Reckoner.ARGUMENT_BITS | argument;
                 codeSize++;
             }
         }
@@ -1561,7 +1575,7 @@ public final class LetterQuay {
         /** The jump that stands there comes to what is emitted next. */
         private void land(int jump, int operation) {
             if (jump >= 0 && jump < codeSize) {
-                code[jump] = Reckoner.coded(operation, codeSize);
+                code[jump] = operation << Reckoner.ARGUMENT_BITS | codeSize;
             }
         }
     }
@@ -1570,7 +1584,7 @@ public final class LetterQuay {
     private static final class Court {
         private static final int DEAREST = 99;
 
-        private final Reckoner reckoner = new Reckoner();
+        final Reckoner reckoner = new Reckoner();
         private final int[] words = new int[LAW_WORDS];
 
         int strokeCost(Quay quay, Text law, int person, int k, int letter) {
@@ -1590,7 +1604,7 @@ public final class LetterQuay {
             fillWords(quay, person, NONE, NONE, NONE);
             for (int i = 0; i < law.size && i < MOST_CLAUSES; i++) {
                 Clause clause = law.clauses[i];
-                if (clause != null && clause.kind == BARS && isSo(law, clause, words)) {
+                if (clause != null && clause.kind == BARS && reckoner.reckon(law, clause.test, words, 1) == 1) {
                     return true;
                 }
             }
@@ -1614,30 +1628,14 @@ public final class LetterQuay {
             }
             for (int i = Math.min(law.size, MOST_CLAUSES) - 1; i >= 0; i--) {
                 Clause clause = law.clauses[i];
-                if (clause != null && clause.kind == kind && isSo(law, clause, words)) {
-                    int told = sumOf(law, clause.first, words);
+                if (clause != null && clause.kind == kind && reckoner.reckon(law, clause.test, words, 1) == 1) {
+                    int told = reckoner.reckon(law, clause.first, words, BROKEN);
                     if (told != BROKEN) {
                         return Math.max(0, Math.min(DEAREST, told));
                     }
                 }
             }
             return 1;
-        }
-
-        /** Whether the "if" of a CLAUSE is so, or it has none. */
-        boolean isSo(Text text, Clause clause, int[] values) {
-            if (clause.test == NONE) {
-                return true;
-            }
-            return text.code != null && reckoner.reckon(text.code, clause.test, values) == 1;
-        }
-
-        /** 0 where a CLAUSE has no such SUM. */
-        int sumOf(Text text, int place, int[] values) {
-            if (place == NONE) {
-                return 0;
-            }
-            return text.code == null ? BROKEN : reckoner.reckon(text.code, place, values);
         }
     }
 
