@@ -123,6 +123,18 @@ public final class ChangeTest {
         }
         CHECK.due("a 17th undo()", x.undo(), -3);
         CHECK.due("alphabet()", x.alphabet(), 21345);
+        int[] kinds = new int[18];
+        for (int n = 0; n < kinds.length; n++) {
+            kinds[n] = n % 3 == 0 ? 2 : n % 5 == 0 ? 1 : 3;
+            int told = kinds[n] == 2 ? x.decree(n % 4) : kinds[n] == 1 ? x.swap(0) : x.pass();
+            CHECK.so("deed " + n, told >= 0);
+        }
+        for (int n = kinds.length - 1; n >= 2; n--) {
+            CHECK.due("undo() of deed " + n, x.undo(), kinds[n]);
+        }
+        CHECK.due("count(4) of the first two of 18", x.count(4), 0);
+        CHECK.due("alphabet() behind the first of 18", x.alphabet(), 12345);
+        CHECK.due("count(12) behind the second of 18", x.count(12), 1);
         x.pass();
         x.person(0);
         x.terms(9, 9);

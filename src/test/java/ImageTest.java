@@ -53,6 +53,12 @@ public final class ImageTest {
         CHECK.due("of(0, 2)", x.of(0, 2), 5);
         CHECK.due("whisper(1)", x.whisper(1), 2);
         CHECK.due("fits(NONE)", x.fits(-1), 60);
+        CHECK.due("fits(0)", x.fits(0), 12345);
+        x.forget();
+        x.heard(1, 0);
+        CHECK.due("fits(0)", x.fits(0), 13245);
+        x.back(0);
+        CHECK.due("fits(0) by what was HEARD then", x.fits(0), 12345);
         CHECK.due("undo()", x.undo(), -3);
         x.pass();
         CHECK.due("back(1)", x.back(1), 0);

@@ -56,6 +56,8 @@ public final class OrdersTest {
         word(x, "stroke 0 at 0 to 4;", "latest = 10");
         word(x, "stroke 0 at 0 to 4; pass; stroke 0 at 0 to 2; swap 0;", "latest = 8");
         word(x, "", "breaks = 1");
+        Check.force(x, "strokes 0");
+        word(x, "stroke 0 at 0 to 4;", "latest = 0 and done = 1");
         word(x, "swap 1;", "breaks = 1");
         word(x, "swap 1; swap 0;", "breaks = 0");
         word(x, "", "swaps = 2");

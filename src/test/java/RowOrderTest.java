@@ -27,6 +27,17 @@ public final class RowOrderTest {
         x.decree(0);
         CHECK.due("ahead(2, 0) by 21345", x.ahead(2, 0), 2);
         CHECK.due("ahead(1, 0) by 21345", x.ahead(1, 0), 1);
+        LetterQuay all = Check.quay(1, 2, 3, 4, 5);
+        for (int k = 0; k < 4; k++) {
+            all.decree(k);
+            String letters = String.valueOf(all.alphabet());
+            for (int one = 0; one < 5; one++) {
+                for (int other = 0; other < 5; other++) {
+                    int d = letters.indexOf('1' + one) - letters.indexOf('1' + other);
+                    CHECK.due("ahead(" + one + ", " + other + ") by " + letters, all.ahead(one, other), d < 0 ? 1 : d > 0 ? 2 : 0);
+                }
+            }
+        }
     }
 
     private static void breaks() {
@@ -84,6 +95,12 @@ public final class RowOrderTest {
         CHECK.due("right(NONE) of a ring", Check.quay(1, 2, 1).right(-1), 0);
         CHECK.due("right(NONE) of one way alone", Check.quay(5, 4, 3, 2, 1).right(-1), 1);
         CHECK.due("right(0) of one way alone", Check.quay(5, 4, 3, 2, 1).right(0), 54321);
+        LetterQuay after = Check.quay(1, 2);
+        after.heard(1, 0);
+        after.fits(-1);
+        CHECK.due("right(0) knows nothing of what was HEARD", after.right(0), 12345);
+        after.right(0);
+        CHECK.due("right(NONE) twice", after.right(-1), 60);
         LetterQuay empty = new LetterQuay();
         int last = 0;
         for (int i = 0; i < 120; i++) {

@@ -55,6 +55,13 @@ public final class TextTest {
         fault(false, "bars;;bars", 5);
         fault(false, "Bars", 0);
         fault(false, "barss", 0);
+        fault(false, "barsz", 0);
+        fault(false, "barsa", 0);
+        fault(false, "bars`", 4);
+        fault(false, "bars{", 4);
+        fault(false, "steps 1/0", -1);
+        fault(false, "steps 1:", 7);
+        fault(false, "steps 9z", 7);
         fault(false, "bars 1", 5);
         fault(false, "bars\n", 4);
         fault(false, "bars\u00ff", 4);

@@ -88,8 +88,11 @@ public final class WeeksTest {
 
     private static void barred() {
         CHECK.part("38 weeks, BARRED");
-        LetterQuay x = Check.quay(2, 13, 3);
+        LetterQuay x = Check.quay(2, 15, 3);
         int seed = seedFor(3, 1, 2, 4);
+        x.weeks(seed, 1);
+        CHECK.due("drawn(1, 0): the first LETTER alone counts", x.drawn(1, 0), 55);
+        x = Check.quay(2, 13, 3);
         Check.force(x, "bars if person = 1 and day = 0");
         x.weeks(seed, 1);
         CHECK.due("drawn(1, 0)", x.drawn(1, 0), 13);
