@@ -10,6 +10,12 @@ final class Check {
         part = name;
     }
 
+    /** The sentence that the answers behind it stand for; the document must have it word by word. */
+    void sentence(int promise, String quote) {
+        part = (promise == Doc.TERMS ? "Terms" : "Promise " + promise) + " '" + quote + "'";
+        so("the document says so", Doc.says(promise, quote));
+    }
+
     void due(String call, long got, long want) {
         asked++;
         if (got != want) {
@@ -26,6 +32,13 @@ final class Check {
         System.out.println(asked + " answers, " + wrong + " of them wrong");
         if (wrong != 0) {
             System.exit(1);
+        }
+    }
+
+    /** What all REFUSED calls were counted as: count(6) to count(10). */
+    void refusals(LetterQuay x, int... want) {
+        for (int i = 0; i < want.length; i++) {
+            due("count(" + (6 + i) + ")", x.count(6 + i), want[i]);
         }
     }
 
