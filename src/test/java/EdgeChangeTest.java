@@ -21,6 +21,8 @@ public final class EdgeChangeTest {
         undoNone();
         undoKinds();
         sixteenAreKept();
+        seventeenUnlikeOnes();
+        strokesUndoneOfEach();
         undoneOnesMakeRoom();
         undoOfOrders();
         nothingAheadOf();
@@ -260,6 +262,55 @@ public final class EdgeChangeTest {
             }
             CHECK.due("one more undo()", x.undo(), -3);
             CHECK.due("count(12)", x.count(12), changes - kept);
+        }
+    }
+
+    /** One after another, with all that stands behind each, so that none that is kept may be mixed up. */
+    private static void seventeenUnlikeOnes() {
+        CHECK.sentence(22, "16 are kept");
+        LetterQuay x = Check.quay(1234, 2, 3, 4, 5, 11, 22);
+        int changes = 35;
+        int[] kinds = new int[changes];
+        String[] ahead = new String[changes];
+        for (int n = 0; n < changes; n++) {
+            ahead[n] = standing(x);
+            kinds[n] = n * n % 7 % 4;
+            int told = kinds[n] == 0 ? x.stroke(0, n % 4, x.of(0, 0) / POWERS[n % 4] % 10 % 5 + 1)
+                : kinds[n] == 1 ? x.swap(n % 6) : kinds[n] == 2 ? x.decree(n % 4) : x.pass();
+            CHECK.so("change " + n, told >= 0);
+        }
+        for (int n = changes - 1; n >= changes - 16; n--) {
+            CHECK.due("undo() of change " + n, x.undo(), kinds[n]);
+            CHECK.so("all is as it was ahead of change " + n, standing(x).equals(ahead[n]));
+        }
+        CHECK.due("one more undo()", x.undo(), -3);
+    }
+
+    private static final int[] POWERS = {1000, 100, 10, 1};
+
+    private static String standing(LetterQuay x) {
+        StringBuilder all = new StringBuilder().append(x.of(0, 0)).append(' ').append(x.alphabet()).append(' ').append(x.count(12));
+        for (int place = 0; place < 7; place++) {
+            all.append(' ').append(x.at(place));
+        }
+        return all.toString();
+    }
+
+    private static void strokesUndoneOfEach() {
+        CHECK.sentence(22, "The latest stroke()");
+        for (int person = 0; person < 7; person++) {
+            for (int k = 0; k < 4; k++) {
+                for (int letter = 1; letter <= 5; letter++) {
+                    int name = 1111 * letter;
+                    LetterQuay x = Check.quay(name, name, name, name, name, name, name);
+                    x.stroke(person, k, letter % 5 + 1);
+                    CHECK.due("of(" + person + ", 0)", x.of(person, 0), name + (letter % 5 + 1 - letter) * POWERS[k]);
+                    CHECK.due("undo()", x.undo(), 0);
+                    for (int one = 0; one < 7; one++) {
+                        CHECK.due("of(" + one + ", 0) behind undo()", x.of(one, 0), name);
+                    }
+                }
+            }
         }
     }
 

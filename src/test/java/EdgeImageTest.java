@@ -10,6 +10,9 @@ public final class EdgeImageTest {
         backToNone();
         emptyImage();
         fullImage();
+        allSayingsOfAnImage();
+        alphabetOfAnImage();
+        heardOfAnImage();
         imagesAreApart();
         imagesStay();
         keptNot();
@@ -131,6 +134,67 @@ public final class EdgeImageTest {
         CHECK.due("heard(0, 1)", x.heard(0, 1), -5);
         CHECK.due("law()", Check.law(x, "bars"), -5);
         CHECK.due("pass()", x.pass(), -3);
+    }
+
+    private static void allSayingsOfAnImage() {
+        CHECK.sentence(0, "BACK to one all that it keeps is as it was then");
+        LetterQuay x = Check.quay(1, 1, 1, 1, 1, 1, 1);
+        sayAll(x, 1);
+        x.image(0);
+        sayAll(x, 3);
+        x.back(0);
+        for (int person = 0; person < 7; person++) {
+            for (int letter = 1; letter <= 5; letter++) {
+                CHECK.due("says(" + person + ", " + letter + ", 1)", x.says(person, letter, 1), (person + letter + 1) % 5 + 1);
+            }
+        }
+    }
+
+    private static void sayAll(LetterQuay x, int by) {
+        for (int person = 0; person < 7; person++) {
+            for (int letter = 1; letter <= 5; letter++) {
+                x.says(person, letter, (person + letter + by) % 5 + 1);
+            }
+        }
+    }
+
+    private static void alphabetOfAnImage() {
+        CHECK.sentence(0, "BACK to one all that it keeps is as it was then");
+        LetterQuay x = Check.quay(1, 2, 3, 4, 5);
+        x.image(0);
+        for (int n = 0; n < 4; n++) {
+            for (int k = 0; k < 4 - n; k++) {
+                x.decree(k);
+            }
+        }
+        x.image(1);
+        for (int k = 0; k < 2; k++) {
+            x.back(k);
+            CHECK.due("alphabet()", x.alphabet(), k == 0 ? 12345 : 54321);
+            for (int one = 0; one < 4; one++) {
+                CHECK.due("ahead(" + one + ", next) by " + x.alphabet(), x.ahead(one, one + 1), k + 1);
+            }
+            CHECK.due("breaks(NONE)", x.breaks(-1), 4 * k);
+        }
+    }
+
+    private static void heardOfAnImage() {
+        CHECK.sentence(0, "BACK to one all that it keeps is as it was then");
+        LetterQuay x = Check.quay(1, 2, 3, 4, 5);
+        for (int n = 0; n < 4; n++) {
+            x.heard(n, n + 1);
+        }
+        x.image(0);
+        x.forget();
+        for (int n = 0; n < 4; n++) {
+            x.heard(n + 1, n);
+        }
+        x.image(1);
+        for (int k = 0; k < 2; k++) {
+            x.back(k);
+            CHECK.due("fits(NONE)", x.fits(-1), 1);
+            CHECK.due("fits(0)", x.fits(0), k == 0 ? 12345 : 54321);
+        }
     }
 
     private static void imagesAreApart() {

@@ -17,6 +17,7 @@ public final class EdgeMendTest {
         eachLetterByItself();
         firstOfLikeOnes();
         firstByTheAlphabet();
+        mendOfFewerThen();
         mendChangesNothing();
         compareNone();
         compareWithNone();
@@ -172,6 +173,23 @@ public final class EdgeMendTest {
         mended(x, 0, 2, 1);
         x.swap(0);
         mended(x, 1, 5, 2);
+    }
+
+    private static void mendOfFewerThen() {
+        CHECK.sentence(32, "MENDED: what it costs (what 0), the NAME at PLACE p (1 + p).");
+        LetterQuay x = new LetterQuay();
+        x.image(0);
+        x.person(3);
+        x.person(2);
+        x.image(1);
+        x.person(2);
+        x.person(1);
+        Check.force(x, "strokes 50");
+        mended(x, 100, 1, 2, 2, 2);
+        x.back(1);
+        mended(x, 1, 1, 2);
+        x.back(0);
+        mended(x, 0);
     }
 
     private static void mendChangesNothing() {

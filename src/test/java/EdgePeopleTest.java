@@ -18,6 +18,7 @@ public final class EdgePeopleTest {
         termsAtFirst();
         noSuchTerm();
         aheadByTheFirstDifference();
+        aheadByEachAlphabet();
         aheadByBeginning();
         alike();
         emptyQuay();
@@ -67,8 +68,14 @@ public final class EdgePeopleTest {
         CHECK.sentence(0, "A NAME: one to four LETTERS, as a number with these digits, the first one the highest.");
         int good = 0;
         int wrong = 0;
+        LetterQuay x = new LetterQuay();
         for (int name = -6000; name < 100000; name++) {
-            LetterQuay x = new LetterQuay();
+            // A new object in time, as it may have 512 calls.
+            if (name % 100 == 0) {
+                x = new LetterQuay();
+                x.image(0);
+            }
+            x.back(0);
             boolean fits = String.valueOf(name).matches("[1-5]{1,4}");
             good += fits ? 1 : 0;
             int answer = x.person(name);
@@ -192,6 +199,33 @@ public final class EdgePeopleTest {
         turned.decree(3);
         CHECK.due("1, 2 by 21354", turned.ahead(0, 1), 2);
         CHECK.due("4, 5 by 21354", turned.ahead(2, 3), 2);
+    }
+
+    private static void aheadByEachAlphabet() {
+        CHECK.sentence(0, "by the ALPHABET where they first differ");
+        for (int i = 0; i < 120; i++) {
+            LetterQuay x = turned(new LetterQuay().right(i));
+            String letters = String.valueOf(x.alphabet());
+            int wrong = 0;
+            for (int pair = 0; pair < 25; pair++) {
+                int d = letters.indexOf('1' + pair / 5) - letters.indexOf('1' + pair % 5);
+                wrong += x.ahead(pair / 5, pair % 5) == (d < 0 ? 1 : d > 0 ? 2 : 0) ? 0 : 1;
+            }
+            CHECK.due("pairs that are wrong by " + letters, wrong, 0);
+        }
+    }
+
+    /** By decrees: each LETTER in turn comes ahead to its place. */
+    private static LetterQuay turned(int alphabet) {
+        LetterQuay x = Check.quay(1, 2, 3, 4, 5);
+        String due = String.valueOf(alphabet);
+        for (int place = 0; place < 5; place++) {
+            for (int k = String.valueOf(x.alphabet()).indexOf(due.charAt(place)); k > place; k--) {
+                x.decree(k - 1);
+            }
+        }
+        CHECK.due("alphabet()", x.alphabet(), alphabet);
+        return x;
     }
 
     private static void aheadByBeginning() {

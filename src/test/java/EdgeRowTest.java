@@ -14,6 +14,7 @@ public final class EdgeRowTest {
         swaps();
         swapsLeaveAlikeOnes();
         out();
+        outByTheAlphabet();
         outIsTheLowest();
         outNone();
         right();
@@ -114,6 +115,27 @@ public final class EdgeRowTest {
         }
     }
 
+    private static void outByTheAlphabet() {
+        CHECK.sentence(0, "could make it RIGHT");
+        int[][] rows = {{1, 2, 3, 4, 5}, {5, 4, 3, 2, 1}, {1, 5}, {5, 1}, {1, 11, 5}, {55, 5, 1}};
+        int[] bits = {15, 0, 1, 0, 4, 1};
+        for (int i = 0; i < rows.length; i++) {
+            LetterQuay x = Check.quay(rows[i]);
+            turnAbout(x);
+            CHECK.due("out(0) of row " + i + " by 54321", x.out(0), Integer.bitCount(bits[i]));
+            CHECK.due("out(1) of row " + i + " by 54321", x.out(1), bits[i]);
+        }
+    }
+
+    private static void turnAbout(LetterQuay x) {
+        for (int n = 0; n < 4; n++) {
+            for (int k = 0; k < 4 - n; k++) {
+                x.decree(k);
+            }
+        }
+        CHECK.due("alphabet()", x.alphabet(), 54321);
+    }
+
     private static void outIsTheLowest() {
         CHECK.sentence(0, "the lowest as bits of PLACES");
         CHECK.due("either of two", Check.quay(2, 1).out(1), 1);
@@ -174,6 +196,10 @@ public final class EdgeRowTest {
             CHECK.due("right(" + bad + ")", x.right(bad), -1);
         }
         CHECK.due("right(59)", x.right(59), 54312);
+        x.heard(1, 0);
+        CHECK.due("fits(0)", x.fits(0), 21345);
+        CHECK.due("right(0) knows nothing of what was HEARD", x.right(0), 12345);
+        CHECK.due("fits(0) knows nothing of the ROW", x.fits(0), 21345);
         x.decree(0);
         CHECK.due("right(NONE) knows nothing of the ALPHABET", x.right(-1), 60);
     }

@@ -18,6 +18,7 @@ public final class EdgeTextTest {
         eightBrackets();
         bracketsBesideOneAnother();
         wholeTape();
+        oneTextBehindAnother();
         manyNots();
         fromTheLeft();
         beyond();
@@ -276,6 +277,26 @@ public final class EdgeTextTest {
         fault(false, "steps " + "[".repeat(394), 14);
         fault(true, ";".repeat(400), 0);
         fault(true, "pass if " + "not".repeat(130), 8);
+    }
+
+    /** Long ones, with a FAULT and without, many times over: none leaves anything behind for the next one. */
+    private static void oneTextBehindAnother() {
+        CHECK.sentence(0, "50 PARTS that are NUMBERS and words (FAULT at the 51st)");
+        LetterQuay x = Check.quay(1, 2);
+        String fifty = "decree 0" + "*1".repeat(24) + " if 1" + "+1".repeat(23) + "=24";
+        for (int n = 0; n < 12; n++) {
+            CHECK.due("orders() of fifty", Check.orders(x, fifty), 1);
+            CHECK.due("orders() of one more", Check.orders(x, fifty + "+1"), -6);
+            CHECK.due("fault()", x.fault(), fifty.length() + 1);
+        }
+        for (int n = 0; n < 6; n++) {
+            Check.force(x, "steps " + n + "+1".repeat(49));
+            CHECK.due("of(0, 2)", x.of(0, 2), n + 49);
+        }
+        for (int n = 0; n < 6; n++) {
+            x.force(n);
+            CHECK.due("of(0, 2) by LAW " + n, x.of(0, 2), n + 49);
+        }
     }
 
     private static void manyNots() {

@@ -14,6 +14,8 @@ public final class EdgeWhisperTest {
         clearestNone();
         clearestOfFew();
         clearestOfAllOrders();
+        oneMoreInALaterOrder();
+        fewerThanBefore();
         firstAsARow();
         clearestOfNoLetter();
         comesNone();
@@ -130,6 +132,40 @@ public final class EdgeWhisperTest {
         for (int i = -1; i < 3; i++) {
             CHECK.due("clearest(" + i + ")", turn.clearest(i), row[i + 1]);
         }
+    }
+
+    /** By 0, 1, 2 three LETTERS come through, by 0, 2, 1 four: as many as are left apart at all. */
+    private static void oneMoreInALaterOrder() {
+        CHECK.sentence(0, "that by which the most LETTERS come to the end as they were");
+        int[][][] rows = {
+            {{1, 2, 2, 4, 5}, {1, 5, 3, 4, 5}, {1, 3, 3, 4, 5}},
+            {{1, 1, 3, 4, 5}, {2, 5, 3, 4, 5}, {1, 2, 3, 4, 2}},
+            {{1, 2, 3, 4, 4}, {1, 2, 3, 1, 5}, {1, 2, 3, 5, 5}},
+            {{3, 2, 3, 4, 5}, {1, 2, 5, 4, 5}, {1, 2, 1, 4, 5}}};
+        int[] due = {4, 0, 2, 1};
+        for (int[][] row : rows) {
+            LetterQuay x = Check.quay(1, 2, 3);
+            for (int person = 0; person < 3; person++) {
+                for (int letter = 1; letter <= 5; letter++) {
+                    x.says(person, letter, row[person][letter - 1]);
+                }
+            }
+            for (int i = -1; i < 3; i++) {
+                CHECK.due("clearest(" + i + ")", x.clearest(i), due[i + 1]);
+            }
+        }
+    }
+
+    private static void fewerThanBefore() {
+        CHECK.sentence(35, "CLEAREST: how many LETTERS (i NONE)");
+        LetterQuay x = Check.quay(1, 2);
+        for (int letter = 1; letter <= 5; letter++) {
+            CHECK.due("clearest(NONE)", x.clearest(-1), letter == 1 ? 5 : 6 - letter);
+            x.says(0, letter, 5);
+        }
+        CHECK.due("clearest(NONE) at last", x.clearest(-1), 1);
+        CHECK.due("clearest(0)", x.clearest(0), 0);
+        CHECK.due("clearest(1)", x.clearest(1), 1);
     }
 
     private static void firstAsARow() {
