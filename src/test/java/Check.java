@@ -85,4 +85,30 @@ final class Check {
     static void force(LetterQuay x, String text) {
         x.force(law(x, text));
     }
+
+    /** Ten decrees by which 12345 becomes 54321. */
+    static void turnAbout(LetterQuay x) {
+        for (int n = 0; n < 4; n++) {
+            for (int k = 0; k < 4 - n; k++) {
+                x.decree(k);
+            }
+        }
+    }
+
+    /** The s behind s, as Terms IV tell. */
+    static int draw(int s) {
+        return (int) ((s * 1103L + 12345) % 1_000_003);
+    }
+
+    /** A SEED by which the first three DRAWS of so many PEOPLE, of 4 and of 5 are these. */
+    static int seedFor(int people, int who, int what, int letter) {
+        for (int seed = 0; seed <= 1_000_000; seed++) {
+            int one = draw(seed);
+            int two = draw(one);
+            if (one % people == who && two % 4 == what && draw(two) % 5 == letter) {
+                return seed;
+            }
+        }
+        throw new IllegalStateException();
+    }
 }

@@ -162,11 +162,7 @@ public final class EdgeImageTest {
         CHECK.sentence(0, "BACK to one all that it keeps is as it was then");
         LetterQuay x = Check.quay(1, 2, 3, 4, 5);
         x.image(0);
-        for (int n = 0; n < 4; n++) {
-            for (int k = 0; k < 4 - n; k++) {
-                x.decree(k);
-            }
-        }
+        Check.turnAbout(x);
         x.image(1);
         for (int k = 0; k < 2; k++) {
             x.back(k);

@@ -164,11 +164,7 @@ public final class EdgeMendTest {
     private static void firstByTheAlphabet() {
         CHECK.sentence(0, "as they are AHEAD of one another");
         LetterQuay x = Check.quay(2, 1);
-        for (int n = 0; n < 4; n++) {
-            for (int k = 0; k < 4 - n; k++) {
-                x.decree(k);
-            }
-        }
+        Check.turnAbout(x);
         CHECK.due("alphabet()", x.alphabet(), 54321);
         mended(x, 0, 2, 1);
         x.swap(0);

@@ -139,11 +139,7 @@ public final class EdgePeopleTest {
         CHECK.sentence(7, "The ALPHABET.");
         LetterQuay x = new LetterQuay();
         CHECK.due("alphabet()", x.alphabet(), 12345);
-        for (int n = 0; n < 4; n++) {
-            for (int k = 0; k < 4 - n; k++) {
-                x.decree(k);
-            }
-        }
+        Check.turnAbout(x);
         CHECK.due("alphabet() turned about wholly", x.alphabet(), 54321);
     }
 

@@ -121,19 +121,10 @@ public final class EdgeRowTest {
         int[] bits = {15, 0, 1, 0, 4, 1};
         for (int i = 0; i < rows.length; i++) {
             LetterQuay x = Check.quay(rows[i]);
-            turnAbout(x);
+            Check.turnAbout(x);
             CHECK.due("out(0) of row " + i + " by 54321", x.out(0), Integer.bitCount(bits[i]));
             CHECK.due("out(1) of row " + i + " by 54321", x.out(1), bits[i]);
         }
-    }
-
-    private static void turnAbout(LetterQuay x) {
-        for (int n = 0; n < 4; n++) {
-            for (int k = 0; k < 4 - n; k++) {
-                x.decree(k);
-            }
-        }
-        CHECK.due("alphabet()", x.alphabet(), 54321);
     }
 
     private static void outIsTheLowest() {

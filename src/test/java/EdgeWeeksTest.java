@@ -23,22 +23,6 @@ public final class EdgeWeeksTest {
         CHECK.finish();
     }
 
-    private static int next(int s) {
-        return (int) ((s * 1103L + 12345) % 1_000_003);
-    }
-
-    /** A SEED by which the first three DRAWS are these. */
-    private static int seedFor(int people, int who, int what, int letter) {
-        for (int seed = 0; seed <= 1_000_000; seed++) {
-            int one = next(seed);
-            int two = next(one);
-            if (one % people == who && two % 4 == what && next(two) % 5 == letter) {
-                return seed;
-            }
-        }
-        throw new IllegalStateException();
-    }
-
     private static void numbersThatCannotBe() {
         CHECK.sentence(0, "WEEKS with a SEED, n 1 .. 60, on paper: s is the SEED (0 .. 1,000,000)");
         LetterQuay x = Check.quay(2, 1);
@@ -87,11 +71,11 @@ public final class EdgeWeeksTest {
             x.weeks(seed, 60);
             int s = seed;
             for (int time = 0; time < 60; time++) {
-                s = next(s);
+                s = Check.draw(s);
                 int who = s % 7;
-                s = next(s);
+                s = Check.draw(s);
                 int what = s % 4;
-                s = next(s);
+                s = Check.draw(s);
                 if (what <= 1 && who < 6) {
                     int one = row[who];
                     row[who] = row[who + 1];
@@ -118,7 +102,7 @@ public final class EdgeWeeksTest {
         }
         LetterQuay x = Check.quay(2, 1);
         x.terms(0, 999);
-        int exchange = seedFor(2, 0, 0, 0);
+        int exchange = Check.seedFor(2, 0, 0, 0);
         CHECK.due("nothing is drawn at DAY 999", x.weeks(exchange, 60), 0);
         CHECK.due("status()", x.status(), 0);
         CHECK.due("it is the latest all the same", x.drawn(0, 1), 0);
@@ -131,9 +115,9 @@ public final class EdgeWeeksTest {
     private static void oneAlone() {
         CHECK.sentence(0, "DRAWS of PEOPLE, of 4, of 5");
         LetterQuay x = Check.quay(1234);
-        x.weeks(seedFor(1, 0, 0, 0), 1);
+        x.weeks(Check.seedFor(1, 0, 0, 0), 1);
         CHECK.due("no exchange of one", x.drawn(0, 1), 0);
-        x.weeks(seedFor(1, 0, 2, 4), 1);
+        x.weeks(Check.seedFor(1, 0, 2, 4), 1);
         CHECK.due("drawn(0, 0)", x.drawn(0, 0), 5234);
     }
 
@@ -142,7 +126,7 @@ public final class EdgeWeeksTest {
         LetterQuay x = Check.quay(1, 2, 3);
         for (int what = 0; what <= 1; what++) {
             for (int who = 0; who < 3; who++) {
-                x.weeks(seedFor(3, who, what, 0), 1);
+                x.weeks(Check.seedFor(3, who, what, 0), 1);
                 for (int person = 0; person < 3; person++) {
                     int place = who == 2 || person != who && person != who + 1 ? person : 2 * who + 1 - person;
                     CHECK.due("drawn(" + person + ", 1) of " + who + ", " + what, x.drawn(person, 1), place);
@@ -157,7 +141,7 @@ public final class EdgeWeeksTest {
         int[][] due = {{1234, 2234, 3234, 4234, 5234}, {1, 2, 3, 4, 5}, {15, 25, 35, 45, 55}};
         for (int who = 0; who < 3; who++) {
             for (int letter = 0; letter < 5; letter++) {
-                x.weeks(seedFor(3, who, 2, letter), 1);
+                x.weeks(Check.seedFor(3, who, 2, letter), 1);
                 CHECK.due("drawn(" + who + ", 0) by " + letter, x.drawn(who, 0), due[who][letter]);
                 CHECK.due("another one stays", x.drawn((who + 1) % 3, 0), x.of((who + 1) % 3, 0));
             }
@@ -167,7 +151,7 @@ public final class EdgeWeeksTest {
     private static void notBarred() {
         CHECK.sentence(0, "if it can be (not BARRED, another one)");
         LetterQuay x = Check.quay(1, 2, 3);
-        int seed = seedFor(3, 1, 2, 4);
+        int seed = Check.seedFor(3, 1, 2, 4);
         Check.force(x, "bars if person = 1");
         x.weeks(seed, 1);
         CHECK.due("BARRED", x.drawn(1, 0), 2);
@@ -189,7 +173,7 @@ public final class EdgeWeeksTest {
         CHECK.sentence(0, "at 3 nothing; then the DAY passes");
         LetterQuay x = Check.quay(1, 2, 3);
         for (int who = 0; who < 3; who++) {
-            CHECK.due("weeks(seed, 1)", x.weeks(seedFor(3, who, 3, 4), 1), 1);
+            CHECK.due("weeks(seed, 1)", x.weeks(Check.seedFor(3, who, 3, 4), 1), 1);
             for (int person = 0; person < 3; person++) {
                 CHECK.due("drawn(" + person + ", 0)", x.drawn(person, 0), person + 1);
                 CHECK.due("drawn(" + person + ", 1)", x.drawn(person, 1), person);
@@ -214,7 +198,7 @@ public final class EdgeWeeksTest {
     private static void howOftenRight() {
         CHECK.sentence(38, "WEEKS, kept as the latest: how often the ROW was RIGHT behind a DAY.");
         LetterQuay x = Check.quay(1, 2);
-        int exchange = seedFor(2, 0, 1, 0);
+        int exchange = Check.seedFor(2, 0, 1, 0);
         CHECK.due("no more RIGHT", x.weeks(exchange, 1), 0);
         x.swap(0);
         CHECK.due("RIGHT then", x.weeks(exchange, 1), 1);
@@ -252,7 +236,7 @@ public final class EdgeWeeksTest {
         CHECK.sentence(39, "Behind the latest WEEKS");
         LetterQuay x = Check.quay(1, 2);
         x.image(0);
-        int stroke = seedFor(2, 1, 2, 4);
+        int stroke = Check.seedFor(2, 1, 2, 4);
         x.weeks(stroke, 1);
         x.stroke(0, 0, 3);
         x.swap(0);
@@ -265,7 +249,7 @@ public final class EdgeWeeksTest {
         CHECK.due("behind a REFUSED one", x.drawn(1, 0), 5);
         x.back(0);
         CHECK.due("behind back()", x.drawn(1, 0), 5);
-        x.weeks(seedFor(2, 1, 3, 4), 1);
+        x.weeks(Check.seedFor(2, 1, 3, 4), 1);
         CHECK.due("the latest", x.drawn(1, 0), 2);
     }
 }

@@ -57,39 +57,27 @@ public final class WeeksTest {
         CHECK.due("count(4) stays", x.count(4), 0);
         // A SEED by which the DRAWS are 1, 2, 4: the first LETTER of PERSON 1 becomes 5, where 0 stands at PLACE 1.
         x.swap(0);
-        int seed = seedFor(3, 1, 2, 4);
+        int seed = Check.seedFor(3, 1, 2, 4);
         CHECK.due("weeks(seed, 1)", x.weeks(seed, 1), 0);
         CHECK.due("drawn(1, 0)", x.drawn(1, 0), 5);
         CHECK.due("drawn(0, 0)", x.drawn(0, 0), 2);
         CHECK.due("of(1, 0) stays", x.of(1, 0), 1);
-        seed = seedFor(3, 1, 3, 4);
+        seed = Check.seedFor(3, 1, 3, 4);
         CHECK.due("weeks(seed, 1) of nothing", x.weeks(seed, 1), 1);
         CHECK.due("drawn(1, 0)", x.drawn(1, 0), 1);
-        seed = seedFor(3, 2, 0, 0);
+        seed = Check.seedFor(3, 2, 0, 0);
         CHECK.due("weeks(seed, 1) without a next one", x.weeks(seed, 1), 1);
         CHECK.due("drawn(2, 1)", x.drawn(2, 1), 2);
-        seed = seedFor(3, 1, 0, 0);
+        seed = Check.seedFor(3, 1, 0, 0);
         CHECK.due("weeks(seed, 1) by PLACE", x.weeks(seed, 1), 0);
         CHECK.due("drawn(0, 1)", x.drawn(0, 1), 2);
         CHECK.due("drawn(2, 1)", x.drawn(2, 1), 1);
     }
 
-    private static int seedFor(int people, int who, int what, int letter) {
-        for (int seed = 0; seed <= 1000000; seed++) {
-            long one = (seed * 1103L + 12345) % 1000003;
-            long two = (one * 1103L + 12345) % 1000003;
-            long three = (two * 1103L + 12345) % 1000003;
-            if (one % people == who && two % 4 == what && three % 5 == letter) {
-                return seed;
-            }
-        }
-        return -1;
-    }
-
     private static void barred() {
         CHECK.part("38 weeks, BARRED");
         LetterQuay x = Check.quay(2, 15, 3);
-        int seed = seedFor(3, 1, 2, 4);
+        int seed = Check.seedFor(3, 1, 2, 4);
         x.weeks(seed, 1);
         CHECK.due("drawn(1, 0): the first LETTER alone counts", x.drawn(1, 0), 55);
         x = Check.quay(2, 13, 3);
